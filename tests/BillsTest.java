@@ -88,6 +88,15 @@ public final class BillsTest {
         Check.same("7: the clock counts behind the end of the frame", hall.pass(7), 7);
         hall.end(0);
         owed("behind the end of a frame of the league", hall, 7, 12);
+        BaulkHall next = new BaulkHall();
+        next.rent(0, 7);
+        next.begin(0, 0, 1, true);
+        FramesTest.play(next, 0, FramesTest.WON_BY_FIRST);
+        next.pass(30);
+        next.begin(0, 7, 1, false);
+        next.pass(10);
+        next.end(0);
+        owed("behind a frame of the league and one that is not", next, 7, 24);
         BaulkHall other = new BaulkHall();
         other.rent(0, 7);
         other.begin(0, 7, 1, false);

@@ -115,6 +115,8 @@ public final class ShotsTest {
                 "2,40 5,40 0,12 2,15 1,29 1,22 1,15 5,6 5,6 0,39 1,23", "7,40", 7);
         foul("no ball is met, with a free ball", "7,15", "7,24", 4);
         foul("the ball 2 on is worth 4", "2,40 5,40", "2,6", 4);
+        foul("the ball 5 is met first, and the ball on last", "7,23", "2,25", 4);
+        Check.same("10: no foul, as the ball on is met first, and the ball 4 last", FramesTest.play(bare("6,38 0,22 3,16"), 0, "4,24"), 0);
     }
 
     private static void comingBack() {
@@ -131,6 +133,8 @@ public final class ShotsTest {
         Check.same("23: the balls 1 and 2 come back, the cell 2 has a ball",
                 Check.cellsOf(bare("1,39 7,33 3,20 0,32 4,39 1,20 0,37 4,26 5,25 1,25"), 0),
                 "[14, 1, 3, 2, 74, 106, 63, 59]");
+        Check.same("23: balls that came back have no force at first", Check.cellsOf(bare("6,40 6,40 1,34 0,1"), 0),
+                "[73, 77, 59, 91, 44, 78, 108, 79]");
         // the ball 1 dropped in an earlier shot that was no foul
         BaulkHall hall = bare("2,40 5,40 2,6");
         Check.same("23: a ball that dropped without a foul stays away behind a later foul", hall.cell(0, 1), -1);
@@ -142,6 +146,12 @@ public final class ShotsTest {
         Check.same("25: the ball on is seen along the row", bare("6,6").isFree(0), false);
         Check.same("25: the ball on is seen from beside", bare("2,8").isFree(0), false);
         Check.same("25: from the spot the ball 1 is seen", bare("1,6").isFree(0), false);
+        String[] seenInDirection = {"5,3 6,16", "6,35 0,38", "5,29", "6,34 4,23", "6,25 1,13", "6,37 3,19 6,34",
+            "6,9 7,35", "6,34 3,7"};
+        for (int direction = 0; direction < seenInDirection.length; direction++) {
+            Check.same("25: the ball on is seen in the direction " + direction,
+                    bare(seenInDirection[direction]).isFree(0), false);
+        }
         BaulkHall free = bare("0,1");
         Check.same("25: from the cell 51 the ball 1 is hidden", free.isFree(0), true);
         Check.same("10: with a free ball the ball 2 may be met first", FramesTest.play(free, 0, "5,30"), 5);
@@ -223,14 +233,18 @@ public final class ShotsTest {
         two.shoot(1, 2, 40);
         Check.same("29: the frame beside it has its own balls", two.contacts(0, 2, 40), 29);
         allShotsAlike("");
-        allShotsAlike("2,40 5,40 7,26 0,23 4,32 3,40 1,18");
+        for (String shots : new String[] {FramesTest.WON_BY_FIRST, FramesTest.WON_BY_SECOND}) {
+            for (int end = shots.indexOf(' '); end > 0; end = shots.indexOf(' ', end + 1)) {
+                allShotsAlike(shots.substring(0, end));
+            }
+        }
     }
 
     private static void allShotsAlike(String shots) {
         for (int direction = 0; direction < 8; direction++) {
             BaulkHall hall = bare(shots);
             for (int force = 1; force <= 40; force++) {
-                Check.same("30: direction " + direction + " and force " + force,
+                Check.same("30: direction " + direction + " and force " + force + " behind " + shots,
                         hall.contactsByPairs(0, direction, force), hall.contacts(0, direction, force));
             }
         }
