@@ -1,10 +1,9 @@
-/** Promises 19 and 20: what a customer owes, as it is kept and told anew. */
+/** Promises 19 and 20: what a customer owes, as it is kept and told anew. Edges are in TablesEdgesTest. */
 public final class BillsTest {
     public static void main(String[] args) {
         bills();
         leagueAroundRentals();
         frameThatEnds();
-        refusals();
         manyRentals();
         Check.finish("BillsTest");
     }
@@ -84,14 +83,14 @@ public final class BillsTest {
         hall.pass(4);
         hall.begin(0, 0, 1, true);
         hall.pass(100);
-        FramesTest.play(hall, 0, FramesTest.WON_BY_FIRST);
+        Halls.play(hall, 0, Halls.WON_BY_FIRST);
         Check.same("7: the clock counts behind the end of the frame", hall.pass(7), 7);
         hall.end(0);
         owed("behind the end of a frame of the league", hall, 7, 12);
         BaulkHall next = new BaulkHall();
         next.rent(0, 7);
         next.begin(0, 0, 1, true);
-        FramesTest.play(next, 0, FramesTest.WON_BY_FIRST);
+        Halls.play(next, 0, Halls.WON_BY_FIRST);
         next.pass(30);
         next.begin(0, 7, 1, false);
         next.pass(10);
@@ -105,14 +104,6 @@ public final class BillsTest {
         owed("below a frame that is not of the league", other, 7, 12);
     }
 
-    private static void refusals() {
-        for (int customer : new int[] {-1, 8, Integer.MIN_VALUE, Integer.MAX_VALUE}) {
-            Check.refuses("19: owes(" + customer + ")", BaulkHall::new, h -> h.owes(customer), Check.INDEX);
-            Check.refuses("20: owesAnew(" + customer + ")", BaulkHall::new, h -> h.owesAnew(customer), Check.INDEX);
-        }
-    }
-
-    /** As many rentals, loans and stays as the calls of an object can hold. */
     private static void manyRentals() {
         BaulkHall rented = new BaulkHall();
         int due = 0;
@@ -123,31 +114,5 @@ public final class BillsTest {
             due += i % 8 == 3 ? (i % 11 == 10 ? 12 : 6) : 0;
         }
         owed("behind 160 rentals", rented, 3, due);
-        BaulkHall lent = new BaulkHall();
-        for (int i = 0; i < 254; i++) {
-            lent.lend(i % 6, i % 8);
-            lent.takeBack(i % 6);
-        }
-        lent.lend(1, 6);
-        owed("behind 254 loans", lent, 6, 20);
-        manyStays();
-    }
-
-    private static void manyStays() {
-        BaulkHall hall = new BaulkHall();
-        hall.begin(0, 0, 1, true);
-        for (int i = 0; i < 160; i++) {
-            hall.tear(i % 2);
-            hall.resume(0, 1 - i % 2);
-            hall.mend(i % 2);
-        }
-        hall.rent(0, 5);
-        hall.pass(30);
-        hall.end(0);
-        owed("below the last of 161 stays", hall, 5, 0);
-        hall.rent(1, 5);
-        hall.pass(30);
-        hall.end(1);
-        owed("on the table that the frame left", hall, 5, 18);
     }
 }

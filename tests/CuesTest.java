@@ -1,6 +1,4 @@
-import java.util.function.Supplier;
-
-/** Promises 11 to 13 and 33 to 35: cues that are lent, and the forces of shots. */
+/** Promises 11 to 13 and 33 to 35: cues that are lent, and the forces of shots. Edges are in CuesEdgesTest. */
 public final class CuesTest {
     public static void main(String[] args) {
         lend();
@@ -20,24 +18,6 @@ public final class CuesTest {
         return hall;
     }
 
-    /** A cue 2 with a wear that even shots, each of which costs the foul of meeting no ball, brought it to. */
-    private static BaulkHall worn(int wear) {
-        BaulkHall hall = new BaulkHall();
-        hall.begin(0, 0, 1, true);
-        hall.lend(2, 0);
-        for (int i = 0; i < wear; i++) {
-            playOneByTheFirst(hall, 1);
-        }
-        return hall;
-    }
-
-    private static void playOneByTheFirst(BaulkHall hall, int power) {
-        if (hall.turn(0) != 0) {
-            hall.shoot(0, 0, 1);
-        }
-        hall.shoot(0, 4, power);
-    }
-
     private static void lend() {
         BaulkHall hall = new BaulkHall();
         Check.same("11: lend(5, 7)", hall.lend(5, 7), 0);
@@ -47,63 +27,45 @@ public final class CuesTest {
         Check.same("34: cueOf(1)", hall.cueOf(1), -1);
         Check.same("19: a cue that is lent is owed", hall.owes(7), 20);
         Check.same("20: a cue that is lent is owed", hall.owesAnew(7), 20);
-        BaulkHall used = worn(7);
+        BaulkHall used = Halls.worn(7);
         used.takeBack(2);
         Check.same("11: lend of a worn cue", used.lend(2, 4), 7);
         Check.same("11: the cue has another holder", used.cueOf(4), 2);
         Check.same("11: and not the one before", used.cueOf(0), -1);
-        Supplier<BaulkHall> made = CuesTest::playing;
-        Check.refuses("11: lend(6, 4)", made, h -> h.lend(6, 4), Check.INDEX);
-        Check.refuses("11: lend(-1, 4)", made, h -> h.lend(-1, 4), Check.INDEX);
-        Check.refuses("11: lend(0, 8)", made, h -> h.lend(0, 8), Check.INDEX);
-        Check.refuses("11: lend(0, -1)", made, h -> h.lend(0, -1), Check.INDEX);
-        Check.refuses("11: lend(2, 8), lent and no such customer", made, h -> h.lend(2, 8), Check.INDEX);
-        Check.refuses("11: lend(6, 0), no such cue for one who has one", made, h -> h.lend(6, 0), Check.INDEX);
-        Check.refuses("11: lend(2, 4), lent", made, h -> h.lend(2, 4), Check.STATE);
-        Check.refuses("11: lend(2, 0), lent to the same", made, h -> h.lend(2, 0), Check.STATE);
-        Check.refuses("11: lend(0, 0), who has one", made, h -> h.lend(0, 0), Check.STATE);
     }
 
     private static void takeBack() {
         int[][] coinsByWear = {{0, 20}, {1, 20}, {4, 20}, {5, 19}, {9, 19}, {10, 18}, {99, 1}, {100, 0}};
         for (int[] row : coinsByWear) {
-            BaulkHall hall = worn(row[0]);
+            BaulkHall hall = Halls.worn(row[0]);
             Check.same("12: takeBack with the wear " + row[0], hall.takeBack(2), row[1]);
             Check.same("19: owes behind it", hall.owes(0), 20 - row[1]);
             Check.same("20: owesAnew behind it", hall.owesAnew(0), 20 - row[1]);
             Check.same("12: the cue keeps its wear", hall.wear(2), row[0]);
             Check.same("12: nobody has it", hall.cueOf(0), -1);
         }
-        BaulkHall again = worn(8);
+        BaulkHall again = Halls.worn(8);
         again.takeBack(2);
         again.lend(2, 1);
         Check.same("12: wear that came ahead of lending does not count", again.takeBack(2), 20);
         again.lend(2, 0);
-        playOneByTheFirst(again, 10);
+        Halls.playOneByTheFirst(again, 10);
         Check.same("12: 3 of 11 wear", again.takeBack(2), 20);
         again.lend(2, 0);
-        playOneByTheFirst(again, 16);
+        Halls.playOneByTheFirst(again, 16);
         Check.same("12: 5 wear from 11 on", again.takeBack(2), 19);
         Check.same("19: what was kept of several loans", again.owes(0), 2);
         Check.same("20: what was kept of several loans", again.owesAnew(0), 2);
-        Supplier<BaulkHall> made = CuesTest::playing;
-        Check.refuses("12: takeBack(6)", made, h -> h.takeBack(6), Check.INDEX);
-        Check.refuses("12: takeBack(-1)", made, h -> h.takeBack(-1), Check.INDEX);
-        Check.refuses("12: takeBack(0), not lent", made, h -> h.takeBack(0), Check.STATE);
     }
 
     private static void tip() {
-        BaulkHall hall = worn(6);
+        BaulkHall hall = Halls.worn(6);
         hall.takeBack(2);
         Check.same("13: tip of a worn cue", hall.tip(2), 6);
         Check.same("13: its wear", hall.wear(2), 0);
         Check.same("13: tip of a new one", hall.tip(2), 0);
         Check.same("13: what was kept stays kept", hall.owes(0), 1);
         Check.same("20: what was kept stays kept", hall.owesAnew(0), 1);
-        Supplier<BaulkHall> made = CuesTest::playing;
-        Check.refuses("13: tip(6)", made, h -> h.tip(6), Check.INDEX);
-        Check.refuses("13: tip(-1)", made, h -> h.tip(-1), Check.INDEX);
-        Check.refuses("13: tip(2), lent", made, h -> h.tip(2), Check.STATE);
     }
 
     private static void wearOfShots() {
@@ -114,10 +76,10 @@ public final class CuesTest {
             Check.same("33: the wear of a shot with the power " + row[0], hall.wear(2), row[1]);
             Check.same("33: the other cue", hall.wear(3), 0);
         }
-        BaulkHall much = worn(95);
-        playOneByTheFirst(much, 40);
+        BaulkHall much = Halls.worn(95);
+        Halls.playOneByTheFirst(much, 40);
         Check.same("33: the wear goes up to 100", much.wear(2), 100);
-        playOneByTheFirst(much, 1);
+        Halls.playOneByTheFirst(much, 1);
         Check.same("33: and no further", much.wear(2), 100);
         BaulkHall bare = new BaulkHall();
         bare.begin(0, 0, 1, true);
@@ -128,7 +90,7 @@ public final class CuesTest {
     }
 
     private static void forceIsThatAheadOfTheShot() {
-        BaulkHall hall = worn(0);
+        BaulkHall hall = Halls.worn(0);
         hall.shoot(0, 4, 3);
         Check.same("10: with a new cue the power 3 is the force 3", hall.cell(0, 0), 115);
         BaulkHall bare = new BaulkHall();
@@ -149,20 +111,7 @@ public final class CuesTest {
             {100, 40, 20}, {100, 1, 1}, {100, 3, 1}, {100, 5, 2}, {99, 40, 20}};
         for (int[] row : forces) {
             Check.same("35: force(0, " + row[1] + ") with the wear " + row[0],
-                    worn(row[0]).force(0, row[1]), row[2]);
-        }
-        Supplier<BaulkHall> made = CuesTest::playing;
-        for (int number : new int[] {-1, 6, 8, Integer.MIN_VALUE, Integer.MAX_VALUE}) {
-            Check.refuses("33: wear(" + number + ")", made, h -> h.wear(number), Check.INDEX);
-        }
-        for (int number : new int[] {-1, 8, Integer.MIN_VALUE, Integer.MAX_VALUE}) {
-            Check.refuses("34: cueOf(" + number + ")", made, h -> h.cueOf(number), Check.INDEX);
-            Check.refuses("35: force(" + number + ", 1)", made, h -> h.force(number, 1), Check.INDEX);
-            Check.refuses("35: force(" + number + ", 0)", made, h -> h.force(number, 0), Check.INDEX);
-        }
-        for (int power : new int[] {0, -1, 41, Integer.MIN_VALUE, Integer.MAX_VALUE}) {
-            Check.refuses("35: force(0, " + power + ")", made, h -> h.force(0, power), Check.ARGUMENT);
-            Check.refuses("35: force(5, " + power + ")", made, h -> h.force(5, power), Check.ARGUMENT);
+                    Halls.worn(row[0]).force(0, row[1]), row[2]);
         }
     }
 }

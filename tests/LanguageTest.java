@@ -29,6 +29,7 @@ public final class LanguageTest {
             members(part);
         }
         names();
+        longRuns();
         text(bareText(Files.readString(SOURCE)));
         Check.finish("LanguageTest");
     }
@@ -111,6 +112,32 @@ public final class LanguageTest {
                 }
             }
         }
+    }
+
+    /** More calls than the document asks for: what they answer is free, but the machine throws nothing in them. */
+    private static void longRuns() {
+        BaulkHall hall = new BaulkHall();
+        hall.begin(0, 0, 1, true);
+        Set<Object> thrown = new TreeSet<>();
+        for (int i = 0; i < 2000; i++) {
+            int n = i;
+            List<Check.Call> calls = List.of(h -> h.rent(n % 4, n % 8), h -> h.lend(n % 6, n % 8),
+                    h -> h.pass(n % 3 + 1), h -> h.tear(n % 2), h -> h.resume(0, 1 - n % 2), h -> h.mend(n % 2),
+                    h -> h.takeBack(n % 6), h -> h.end(n % 4), h -> h.shoot(0, n % 8, n % 40 + 1), h -> h.owes(n % 8),
+                    h -> h.begin(2, n % 8, (n + 1) % 8, true), h -> h.tear(2), h -> h.mend(2));
+            for (Check.Call call : calls) {
+                Object got = Check.outcome(hall, call);
+                if (got instanceof String) {
+                    thrown.add(got);
+                }
+            }
+        }
+        for (int customer = 0; customer < 8; customer++) {
+            int c = customer;
+            Object owed = Check.outcome(hall, h -> h.owesAnew(c));
+            Check.same("rule 7: owesAnew behind long runs", owed instanceof Integer, true);
+        }
+        Check.same("rule 7: what was thrown in long runs", thrown, Set.of(Check.STATE.getName()));
     }
 
     /** The source without its comments, and with empty texts. */

@@ -1,6 +1,4 @@
-import java.util.function.Supplier;
-
-/** Promises 10, 23, 25, 29 and 30: shots, where they leave the balls, and what they are worth. */
+/** Promises 10, 23, 25, 29 and 30: shots, and what they are worth. Edges are in ShotsEdgesTest. */
 public final class ShotsTest {
     public static void main(String[] args) {
         rolling();
@@ -9,31 +7,12 @@ public final class ShotsTest {
         comingBack();
         freeBalls();
         points();
-        refusals();
         contacts();
         Check.finish("ShotsTest");
     }
 
-    /** A frame with new cues, so that the force of the first shots is their power. */
-    private static BaulkHall cued() {
-        BaulkHall hall = new BaulkHall();
-        hall.begin(0, 0, 1, true);
-        hall.lend(0, 0);
-        hall.lend(1, 1);
-        return hall;
-    }
-
-    private static BaulkHall bare(String shots) {
-        BaulkHall hall = new BaulkHall();
-        hall.begin(0, 0, 1, true);
-        if (!shots.isEmpty()) {
-            FramesTest.play(hall, 0, shots);
-        }
-        return hall;
-    }
-
     private static void whiteRolls(int direction, int force, int due) {
-        BaulkHall hall = cued();
+        BaulkHall hall = Halls.cued();
         hall.shoot(0, direction, force);
         Check.same("10: the white ball behind direction " + direction + " and force " + force, hall.cell(0, 0), due);
     }
@@ -76,30 +55,30 @@ public final class ShotsTest {
     }
 
     private static void meeting() {
-        BaulkHall hall = cued();
+        BaulkHall hall = Halls.cued();
         Check.same("10: a shot that meets the ball on", hall.shoot(0, 2, 7), 0);
         Check.same("23: half of 1, rounded up, went to the ball 1", Check.cellsOf(hall, 0),
                 "[73, 75, 59, 91, 44, 76, 108, 77]");
-        BaulkHall two = cued();
+        BaulkHall two = Halls.cued();
         two.shoot(0, 2, 8);
         // force 2 at 73: 1 goes to the ball 1, which goes to 75; the rest takes the white ball to 74
         Check.same("23: half of 2", Check.cellsOf(two, 0), "[74, 75, 59, 91, 44, 76, 108, 77]");
-        BaulkHall three = cued();
+        BaulkHall three = Halls.cued();
         three.shoot(0, 2, 9);
         // force 3 at 73: 2 go to the ball 1, which goes to 75 and meets the ball 5, and that the ball 7 behind it
         Check.same("23: half of 3", Check.cellsOf(three, 0), "[74, 75, 59, 91, 44, 76, 108, 78]");
-        Check.same("29: contacts of it", cued().contacts(0, 2, 9), 3);
-        Check.same("23: behind many contacts", Check.cellsOf(bare("2,40"), 0),
+        Check.same("29: contacts of it", Halls.cued().contacts(0, 2, 9), 3);
+        Check.same("23: behind many contacts", Check.cellsOf(Halls.bare("2,40"), 0),
                 "[73, 75, 59, 91, 44, 76, 108, 78]");
-        Check.same("23: behind turned directions", Check.cellsOf(bare("6,40"), 0),
+        Check.same("23: behind turned directions", Check.cellsOf(Halls.bare("6,40"), 0),
                 "[74, 76, 59, 91, 44, 77, 108, 79]");
     }
 
     private static void foul(String what, String before, String shot, int due) {
-        BaulkHall hall = bare(before);
+        BaulkHall hall = Halls.bare(before);
         int player = hall.turn(0);
         int others = hall.points(0, player == 0);
-        Check.same("10: " + what, FramesTest.play(hall, 0, shot), -due);
+        Check.same("10: " + what, Halls.play(hall, 0, shot), -due);
         Check.same("26: the turn behind " + what, hall.turn(0), 1 - player);
         Check.same("27: the other one's points behind " + what, hall.points(0, player == 0), others + due);
     }
@@ -116,124 +95,91 @@ public final class ShotsTest {
         foul("no ball is met, with a free ball", "7,15", "7,24", 4);
         foul("the ball 2 on is worth 4", "2,40 5,40", "2,6", 4);
         foul("the ball 5 is met first, and the ball on last", "7,23", "2,25", 4);
-        Check.same("10: no foul, as the ball on is met first, and the ball 4 last", FramesTest.play(bare("6,38 0,22 3,16"), 0, "4,24"), 0);
+        Check.same("10: no foul, as the ball on is met first, and the ball 4 last",
+                Halls.play(Halls.bare("6,38 0,22 3,16"), 0, "4,24"), 0);
     }
 
     private static void comingBack() {
-        Check.same("23: the white ball comes back to its spot", bare("1,6").cell(0, 0), 67);
-        Check.same("23: the white ball and the ball 1 come back", Check.cellsOf(bare("2,40 3,8 3,32"), 0),
+        Check.same("23: the white ball comes back to its spot", Halls.bare("1,6").cell(0, 0), 67);
+        Check.same("23: the white ball and the ball 1 come back", Check.cellsOf(Halls.bare("2,40 3,8 3,32"), 0),
                 "[67, 74, 59, 91, 44, 76, 108, 78]");
-        Check.same("23: the balls 2 and 4 come back", Check.cellsOf(bare("6,40 6,40 1,34"), 0),
+        Check.same("23: the balls 2 and 4 come back", Check.cellsOf(Halls.bare("6,40 6,40 1,34"), 0),
                 "[89, 77, 59, 91, 44, 78, 108, 79]");
         // the white ball lies on the spot 59 of the ball 2; the cell 0 is a pocket
-        Check.same("23: the ball 2 comes back to the cell 1", Check.cellsOf(bare("6,40 6,40 1,25"), 0),
+        Check.same("23: the ball 2 comes back to the cell 1", Check.cellsOf(Halls.bare("6,40 6,40 1,25"), 0),
                 "[59, 77, 1, 91, 104, 78, 108, 79]");
         Check.same("23: the balls 2 and 6 come back to the cells 1 and 2, by rising numbers",
-                Check.cellsOf(bare("2,20 3,23 1,24 1,23"), 0), "[59, 77, 1, 108, 10, 76, 2, 79]");
+                Check.cellsOf(Halls.bare("2,20 3,23 1,24 1,23"), 0), "[59, 77, 1, 108, 10, 76, 2, 79]");
         Check.same("23: the balls 1 and 2 come back, the cell 2 has a ball",
-                Check.cellsOf(bare("1,39 7,33 3,20 0,32 4,39 1,20 0,37 4,26 5,25 1,25"), 0),
+                Check.cellsOf(Halls.bare("1,39 7,33 3,20 0,32 4,39 1,20 0,37 4,26 5,25 1,25"), 0),
                 "[14, 1, 3, 2, 74, 106, 63, 59]");
-        Check.same("23: balls that came back have no force at first", Check.cellsOf(bare("6,40 6,40 1,34 0,1"), 0),
-                "[73, 77, 59, 91, 44, 78, 108, 79]");
+        Check.same("23: balls that came back have no force at first",
+                Check.cellsOf(Halls.bare("6,40 6,40 1,34 0,1"), 0), "[73, 77, 59, 91, 44, 78, 108, 79]");
         // the ball 1 dropped in an earlier shot that was no foul
-        BaulkHall hall = bare("2,40 5,40 2,6");
+        BaulkHall hall = Halls.bare("2,40 5,40 2,6");
         Check.same("23: a ball that dropped without a foul stays away behind a later foul", hall.cell(0, 1), -1);
         Check.same("24: the ball on behind it", hall.ballOn(0), 2);
     }
 
     private static void freeBalls() {
-        Check.same("25: the ball on is hidden, in no line", bare("0,6").isFree(0), true);
-        Check.same("25: the ball on is seen along the row", bare("6,6").isFree(0), false);
-        Check.same("25: the ball on is seen from beside", bare("2,8").isFree(0), false);
-        Check.same("25: from the spot the ball 1 is seen", bare("1,6").isFree(0), false);
-        String[] seenInDirection = {"5,3 6,16", "6,35 0,38", "5,29", "6,34 4,23", "6,25 1,13", "6,37 3,19 6,34",
-            "6,9 7,35", "6,34 3,7"};
-        for (int direction = 0; direction < seenInDirection.length; direction++) {
+        Check.same("25: the ball on is hidden, in no line", Halls.bare("0,6").isFree(0), true);
+        Check.same("25: the ball on is seen along the row", Halls.bare("6,6").isFree(0), false);
+        Check.same("25: the ball on is seen from beside", Halls.bare("2,8").isFree(0), false);
+        Check.same("25: from the spot the ball 1 is seen", Halls.bare("1,6").isFree(0), false);
+        for (int direction = 0; direction < Halls.SEEN_IN_DIRECTION.length; direction++) {
             Check.same("25: the ball on is seen in the direction " + direction,
-                    bare(seenInDirection[direction]).isFree(0), false);
+                    Halls.bare(Halls.SEEN_IN_DIRECTION[direction]).isFree(0), false);
         }
-        BaulkHall free = bare("0,1");
+        BaulkHall free = Halls.bare("0,1");
         Check.same("25: from the cell 51 the ball 1 is hidden", free.isFree(0), true);
-        Check.same("10: with a free ball the ball 2 may be met first", FramesTest.play(free, 0, "5,30"), 5);
+        Check.same("10: with a free ball the ball 2 may be met first", Halls.play(free, 0, "5,30"), 5);
         Check.same("25: behind a shot that is no foul there is none", free.isFree(0), false);
         Check.same("26: the turn stays, as the ball 5 dropped", free.turn(0), 1);
-        BaulkHall none = bare("3,14 4,40");
+        BaulkHall none = Halls.bare("3,14 4,40");
         Check.same("26: with a free ball no ball dropped", none.turn(0), 0);
         Check.same("27: points of the second", none.points(0, true), 4);
         Check.same("27: points of the first", none.points(0, false), 0);
-        Check.same("25: a foul with a free ball can leave none", bare("7,15 7,24").isFree(0), false);
-        Check.same("25: a ball on that is another than 1", bare("2,40 5,40 2,6").isFree(0), true);
+        Check.same("25: a foul with a free ball can leave none", Halls.bare("7,15 7,24").isFree(0), false);
+        Check.same("25: a ball on that is another than 1", Halls.bare("2,40 5,40 2,6").isFree(0), true);
     }
 
     private static void points() {
-        BaulkHall hall = bare("2,40");
-        Check.same("10: the ball 1 drops", FramesTest.play(hall, 0, "5,40"), 1);
+        BaulkHall hall = Halls.bare("2,40");
+        Check.same("10: the ball 1 drops", Halls.play(hall, 0, "5,40"), 1);
         Check.same("23: it is away", hall.cell(0, 1), -1);
         Check.same("24: the ball on is 2", hall.ballOn(0), 2);
         Check.same("26: the turn stays", hall.turn(0), 1);
         Check.same("27: the points of the second", hall.points(0, true), 1);
         Check.same("27: the points of the first", hall.points(0, false), 0);
-        BaulkHall two = bare("6,40 7,16");
-        Check.same("10: the balls 1 and 2 drop", FramesTest.play(two, 0, "3,28"), 3);
+        BaulkHall two = Halls.bare("6,40 7,16");
+        Check.same("10: the balls 1 and 2 drop", Halls.play(two, 0, "3,28"), 3);
         Check.same("27: 4 points of a foul and 3", two.points(0, false), 7);
         Check.same("24: the ball on is 3", two.ballOn(0), 3);
-        BaulkHall other = bare("2,40 5,40 2,6");
-        Check.same("10: the balls 2 and 4 drop, by a free ball", FramesTest.play(other, 0, "1,36"), 6);
-        Check.same("10: the ball 5 drops, the ball 3 is met first", FramesTest.play(other, 0, "3,35"), 5);
-    }
-
-    private static void refusals() {
-        Supplier<BaulkHall> made = ShotsTest::cued;
-        Supplier<BaulkHall> waits = () -> {
-            BaulkHall hall = cued();
-            hall.tear(0);
-            return hall;
-        };
-        Supplier<BaulkHall> over = () -> bare(FramesTest.WON_BY_FIRST);
-        for (int frame : new int[] {-1, 1, Integer.MIN_VALUE, Integer.MAX_VALUE}) {
-            Check.refuses("10: shoot(" + frame + ", 0, 1)", made, h -> h.shoot(frame, 0, 1), Check.INDEX);
-            Check.refuses("10: shoot(" + frame + ", 8, 0)", made, h -> h.shoot(frame, 8, 0), Check.INDEX);
-            Check.refuses("29: contacts(" + frame + ", 0, 1)", made, h -> h.contacts(frame, 0, 1), Check.INDEX);
-            Check.refuses("29: contacts(" + frame + ", 8, 0)", made, h -> h.contacts(frame, 8, 0), Check.INDEX);
-            Check.refuses("30: contactsByPairs(" + frame + ", 0, 1)", made,
-                    h -> h.contactsByPairs(frame, 0, 1), Check.INDEX);
-            Check.refuses("30: contactsByPairs(" + frame + ", 8, 0)", made,
-                    h -> h.contactsByPairs(frame, 8, 0), Check.INDEX);
-        }
-        int[][] shots = {{8, 1}, {-1, 1}, {Integer.MAX_VALUE, 1}, {Integer.MIN_VALUE, 1}, {0, 0}, {0, 41}, {0, -1},
-            {0, Integer.MAX_VALUE}, {0, Integer.MIN_VALUE}};
-        for (int[] s : shots) {
-            String text = "(0, " + s[0] + ", " + s[1] + ")";
-            Check.refuses("10: shoot" + text, made, h -> h.shoot(0, s[0], s[1]), Check.ARGUMENT);
-            Check.refuses("10: shoot" + text + ", it waits", waits, h -> h.shoot(0, s[0], s[1]), Check.ARGUMENT);
-            Check.refuses("10: shoot" + text + ", it is over", over, h -> h.shoot(0, s[0], s[1]), Check.ARGUMENT);
-            Check.refuses("29: contacts" + text, made, h -> h.contacts(0, s[0], s[1]), Check.ARGUMENT);
-            Check.refuses("30: contactsByPairs" + text, made, h -> h.contactsByPairs(0, s[0], s[1]), Check.ARGUMENT);
-        }
-        Check.refuses("10: shoot(0, 2, 7), it waits", waits, h -> h.shoot(0, 2, 7), Check.STATE);
-        Check.refuses("10: shoot(0, 2, 7), it is over", over, h -> h.shoot(0, 2, 7), Check.STATE);
+        BaulkHall other = Halls.bare("2,40 5,40 2,6");
+        Check.same("10: the balls 2 and 4 drop, by a free ball", Halls.play(other, 0, "1,36"), 6);
+        Check.same("10: the ball 5 drops, the ball 3 is met first", Halls.play(other, 0, "3,35"), 5);
     }
 
     private static void contacts() {
         int[][] rows = {{0, 40, 0}, {1, 40, 0}, {2, 40, 29}, {3, 40, 5}, {4, 40, 0}, {5, 40, 0}, {6, 40, 26},
             {7, 40, 0}, {2, 7, 1}, {2, 6, 0}, {2, 9, 3}};
-        BaulkHall hall = cued();
+        BaulkHall hall = Halls.cued();
         for (int[] row : rows) {
             String shot = "(0, " + row[0] + ", " + row[1] + ")";
             Check.same("29: contacts" + shot, hall.contacts(0, row[0], row[1]), row[2]);
             Check.same("30: contactsByPairs" + shot, hall.contactsByPairs(0, row[0], row[1]), row[2]);
         }
-        Check.same("29: nothing was changed by it", Check.answersOf(hall), Check.answersOf(cued()));
-        BaulkHall waits = cued();
+        Check.same("29: nothing was changed by it", Check.answersOf(hall), Check.answersOf(Halls.cued()));
+        BaulkHall waits = Halls.cued();
         waits.tear(0);
         Check.same("29: contacts of a frame that waits", waits.contacts(0, 2, 40), 29);
         Check.same("30: contactsByPairs of a frame that waits", waits.contactsByPairs(0, 2, 40), 29);
-        BaulkHall two = cued();
+        BaulkHall two = Halls.cued();
         two.begin(1, 2, 3, true);
         two.shoot(1, 2, 40);
         Check.same("29: the frame beside it has its own balls", two.contacts(0, 2, 40), 29);
         allShotsAlike("");
-        for (String shots : new String[] {FramesTest.WON_BY_FIRST, FramesTest.WON_BY_SECOND}) {
+        for (String shots : new String[] {Halls.WON_BY_FIRST, Halls.WON_BY_SECOND}) {
             for (int end = shots.indexOf(' '); end > 0; end = shots.indexOf(' ', end + 1)) {
                 allShotsAlike(shots.substring(0, end));
             }
@@ -242,7 +188,7 @@ public final class ShotsTest {
 
     private static void allShotsAlike(String shots) {
         for (int direction = 0; direction < 8; direction++) {
-            BaulkHall hall = bare(shots);
+            BaulkHall hall = Halls.bare(shots);
             for (int force = 1; force <= 40; force++) {
                 Check.same("30: direction " + direction + " and force " + force + " behind " + shots,
                         hall.contactsByPairs(0, direction, force), hall.contacts(0, direction, force));

@@ -1,6 +1,4 @@
-import java.util.function.Supplier;
-
-/** Promises 1 to 7 and 14 to 18: tables and their clocks. */
+/** Promises 1 to 7 and 14 to 18: tables and their clocks. Edges are in TablesEdgesTest. */
 public final class TablesTest {
     public static void main(String[] args) {
         newObject();
@@ -35,9 +33,6 @@ public final class TablesTest {
         Check.same("2: setPrice(50) at first", hall.setPrice(50), 6);
         Check.same("2: setPrice(0)", hall.setPrice(0), 50);
         Check.same("2: setPrice(7)", hall.setPrice(7), 0);
-        Check.refuses("2: setPrice(51)", BaulkHall::new, h -> h.setPrice(51), Check.ARGUMENT);
-        Check.refuses("2: setPrice(-1)", BaulkHall::new, h -> h.setPrice(-1), Check.ARGUMENT);
-        Check.refuses("2: setPrice(least)", BaulkHall::new, h -> h.setPrice(Integer.MIN_VALUE), Check.ARGUMENT);
     }
 
     /** Table 0 is rented by 2, table 1 is closed. */
@@ -60,17 +55,6 @@ public final class TablesTest {
         hall.end(0);
         hall.end(1);
         Check.same("3: rent(1, 0) behind renting another one", hall.rent(1, 0), 3);
-        Supplier<BaulkHall> made = TablesTest::someTables;
-        Check.refuses("3: rent(4, 0)", made, h -> h.rent(4, 0), Check.INDEX);
-        Check.refuses("3: rent(-1, 0)", made, h -> h.rent(-1, 0), Check.INDEX);
-        Check.refuses("3: rent(2, 8)", made, h -> h.rent(2, 8), Check.INDEX);
-        Check.refuses("3: rent(2, -1)", made, h -> h.rent(2, -1), Check.INDEX);
-        Check.refuses("3: rent(0, 8), rented and no such customer", made, h -> h.rent(0, 8), Check.INDEX);
-        Check.refuses("3: rent(4, 2), no such table for one who rents", made, h -> h.rent(4, 2), Check.INDEX);
-        Check.refuses("3: rent(0, 3), rented", made, h -> h.rent(0, 3), Check.STATE);
-        Check.refuses("3: rent(0, 2), rented by the same", made, h -> h.rent(0, 2), Check.STATE);
-        Check.refuses("3: rent(1, 3), closed", made, h -> h.rent(1, 3), Check.STATE);
-        Check.refuses("3: rent(2, 2), who rents another one", made, h -> h.rent(2, 2), Check.STATE);
     }
 
     private static int billAfter(int price, int... passes) {
@@ -101,11 +85,6 @@ public final class TablesTest {
         hall.pass(1);
         Check.same("4: the bill of the next renter", hall.end(0), 3);
         endAndFrames();
-        Supplier<BaulkHall> made = TablesTest::someTables;
-        Check.refuses("4: end(4)", made, h -> h.end(4), Check.INDEX);
-        Check.refuses("4: end(-1)", made, h -> h.end(-1), Check.INDEX);
-        Check.refuses("4: end(2), not rented", made, h -> h.end(2), Check.STATE);
-        Check.refuses("4: end(1), closed", made, h -> h.end(1), Check.STATE);
     }
 
     private static void endAndFrames() {
@@ -142,10 +121,6 @@ public final class TablesTest {
         Check.same("5: one of the league, too", framed.state(1), 1);
         Check.same("5: a torn table has no frame", framed.frameOn(0), -1);
         Check.same("5: nor has the other one", framed.frameOn(1), -1);
-        Supplier<BaulkHall> made = TablesTest::someTables;
-        Check.refuses("5: tear(4)", made, h -> h.tear(4), Check.INDEX);
-        Check.refuses("5: tear(-1)", made, h -> h.tear(-1), Check.INDEX);
-        Check.refuses("5: tear(1), closed", made, h -> h.tear(1), Check.STATE);
     }
 
     private static void mend() {
@@ -158,22 +133,6 @@ public final class TablesTest {
         Check.same("6: mend(0)", hall.mend(0), 4);
         Check.same("6: a mended table is not rented", hall.renter(0), -1);
         Check.same("6: a mended table can be rented", hall.rent(0, 2), 1);
-        Supplier<BaulkHall> made = TablesTest::someTables;
-        Check.refuses("6: mend(4)", made, h -> h.mend(4), Check.INDEX);
-        Check.refuses("6: mend(-1)", made, h -> h.mend(-1), Check.INDEX);
-        Check.refuses("6: mend(0), open and rented", made, h -> h.mend(0), Check.STATE);
-        Check.refuses("6: mend(2), open", made, h -> h.mend(2), Check.STATE);
-    }
-
-    /** The minute is 10000 less as many as are told; table 0 is rented. */
-    private static BaulkHall atMinuteBeforeLast(int left) {
-        BaulkHall hall = new BaulkHall();
-        hall.rent(0, 0);
-        for (int i = 0; i < 49; i++) {
-            hall.pass(200);
-        }
-        hall.pass(200 - left);
-        return hall;
     }
 
     private static void pass() {
@@ -186,19 +145,6 @@ public final class TablesTest {
         Check.same("14: the minute", hall.minute(), 208);
         Check.same("17: the first clock", hall.clock(0), 207);
         Check.same("17: the second clock", hall.clock(3), 7);
-        BaulkHall late = atMinuteBeforeLast(3);
-        Check.same("14: a late minute", late.minute(), 9997);
-        Check.same("7: pass(3) up to 10000", late.pass(3), 3);
-        Check.same("14: the last minute", late.minute(), 10000);
-        Check.same("4: the longest bill", late.end(0), 6000);
-        Check.refuses("7: pass(0)", TablesTest::someTables, h -> h.pass(0), Check.ARGUMENT);
-        Check.refuses("7: pass(-1)", TablesTest::someTables, h -> h.pass(-1), Check.ARGUMENT);
-        Check.refuses("7: pass(201)", TablesTest::someTables, h -> h.pass(201), Check.ARGUMENT);
-        Check.refuses("7: pass(4), beyond 10000", () -> atMinuteBeforeLast(3), h -> h.pass(4), Check.STATE);
-        Check.refuses("7: pass(1), beyond 10000", () -> atMinuteBeforeLast(0), h -> h.pass(1), Check.STATE);
-        Check.refuses("7: pass(201), out of range and beyond 10000",
-                () -> atMinuteBeforeLast(3), h -> h.pass(201), Check.ARGUMENT);
-        Check.refuses("7: pass(0) at 10000", () -> atMinuteBeforeLast(0), h -> h.pass(0), Check.ARGUMENT);
     }
 
     private static void clocksStopForTheLeague() {
@@ -237,12 +183,5 @@ public final class TablesTest {
         Check.same("17: clock(1)", hall.clock(1), 0);
         Check.same("18: frameOn(2)", hall.frameOn(2), 0);
         Check.same("18: frameOn(3)", hall.frameOn(3), -1);
-        for (int table : new int[] {-1, 4, Integer.MIN_VALUE, Integer.MAX_VALUE}) {
-            Supplier<BaulkHall> made = TablesTest::someTables;
-            Check.refuses("15: isOpen(" + table + ")", made, h -> h.isOpen(table), Check.INDEX);
-            Check.refuses("16: renter(" + table + ")", made, h -> h.renter(table), Check.INDEX);
-            Check.refuses("17: clock(" + table + ")", made, h -> h.clock(table), Check.INDEX);
-            Check.refuses("18: frameOn(" + table + ")", made, h -> h.frameOn(table), Check.INDEX);
-        }
     }
 }
