@@ -284,6 +284,9 @@ public final class ShotsEdgesTest {
                 "[46, 74, 1, 14, 44, 59, 108, 77]");
         Check.same("23: four come back", Check.cellsOf(Halls.bare("0,30 3,39 1,40"), 0),
                 "[46, 74, 59, 44, 1, 76, 108, 77]");
+        // the balls 5 and 6 are on the spots of the white ball and of the ball 4, which drop both
+        Check.same("23: the white ball comes back ahead of the ball 4",
+                Check.cellsOf(Halls.bare("2,18 3,36 0,30 1,34 0,14"), 0), "[1, 76, 91, 108, 2, 67, 44, 79]");
         // the cells 1 to 6 have balls, the cell 7 is a pocket, and the ball 7 is on the white ball's spot
         Check.same("23: the white ball comes back to the cell 8",
                 Check.cellsOf(Halls.bare("2,1 1,22 5,20 1,22 3,30 7,11 2,24 0,1 3,39 1,23 1,30"), 0),
