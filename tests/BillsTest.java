@@ -3,6 +3,7 @@ public final class BillsTest {
     public static void main(String[] args) {
         bills();
         leagueAroundRentals();
+        playedFrameGoesOn();
         frameThatEnds();
         manyRentals();
         Check.finish("BillsTest");
@@ -75,6 +76,25 @@ public final class BillsTest {
         hall.pass(9);
         hall.tear(1);
         owed("with a frame of the league on another table, too", hall, 4, 0);
+    }
+
+    /** A frame of the league that was played goes on at other tables, and stops their clocks. */
+    private static void playedFrameGoesOn() {
+        BaulkHall hall = Halls.bare("2,40 5,40 2,6");
+        hall.rent(1, 5);
+        hall.rent(2, 6);
+        hall.pass(3);
+        hall.tear(0);
+        hall.resume(0, 1);
+        hall.pass(50);
+        Halls.play(hall, 0, "1,36");
+        hall.pass(50);
+        hall.tear(1);
+        owed("3 minutes ahead of a frame that was played", hall, 5, 6);
+        hall.resume(0, 2);
+        hall.pass(100);
+        hall.end(2);
+        owed("103 minutes ahead of that frame", hall, 6, 66);
     }
 
     private static void frameThatEnds() {

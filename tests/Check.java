@@ -117,7 +117,7 @@ final class Check {
      * What calls that change much answer: they bring to light what a hall holds but does not tell at once.
      * Together with the questions ahead of it they are some 440 calls at most, and the hall is spent.
      */
-    private static String aftermathOf(BaulkHall hall) {
+    static String aftermathOf(BaulkHall hall) {
         List<Object> answers = new ArrayList<>();
         hall.setPrice(7);
         answers.add(outcome(hall, h -> h.pass(11)));

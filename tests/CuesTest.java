@@ -87,6 +87,25 @@ public final class CuesTest {
         bare.shoot(0, 4, 40);
         Check.same("33: a shot without a cue wears none off", bare.wear(2), 0);
         forceIsThatAheadOfTheShot();
+        wearOfFairShots();
+    }
+
+    /** Wear comes by the power of each shot, be it a foul or not, and by the one that ends the frame, too. */
+    private static void wearOfFairShots() {
+        BaulkHall fair = playing();
+        Check.same("10: no foul, and no ball dropped", fair.shoot(0, 2, 7), 0);
+        Check.same("33: the wear of a shot that is no foul", fair.wear(2), 2);
+        Check.same("33: the cue of the other one, ahead of his shot", fair.wear(3), 0);
+        Check.same("10: a foul of the other one", fair.shoot(0, 0, 1), -4);
+        Check.same("33: the wear of a foul", fair.wear(3), 1);
+        Check.same("33: the cue of who had the turn before", fair.wear(2), 2);
+        String shots = Halls.WON_BY_FIRST;
+        BaulkHall ended = Halls.bare(shots.substring(0, shots.lastIndexOf(' ')));
+        ended.lend(4, ended.turn(0));
+        // the last shot was made with the power 40, and so the force 30, without a cue
+        Check.same("10: the last shot of the frame", ended.shoot(0, 7, 30), 7);
+        Check.same("22: the frame is over", ended.state(0), 2);
+        Check.same("33: the wear of the shot that ended it", ended.wear(4), 8);
     }
 
     private static void forceIsThatAheadOfTheShot() {

@@ -192,6 +192,7 @@ public final class ShotsEdgesTest {
                 "2,39 3,1 1,3 1,8 4,23 1,36 3,38 1,38 3,26 1,38 3,39", 6);
         foul("the white ball drops, the ball on was met", 7,
                 "2,10 5,40 7,39 2,36 1,3 7,35 5,12 3,38 1,20 3,23 7,30 1,24 4,8 1,32 7,28 1,32", 7);
+        ballOnDropsByFoul();
         foul("with a free ball no ball is met", 1, "0,1 0,1", 4);
         foul("with a free ball the white ball drops, the ball on was met", 1, "2,40 5,7 7,38", 4);
         foul("with a free ball the white ball drops, another ball was met", 1, "0,14 1,38", 4);
@@ -203,6 +204,20 @@ public final class ShotsEdgesTest {
         fair("another ball than the one on drops, which is met first", "6,19 5,40 3,31 1,38", 7);
         fair("three balls drop", "3,18 0,20 1,30", 7);
         fair("four balls drop", "2,18 2,39 3,31 1,35", 14);
+    }
+
+    /** The points are those of the ball on ahead of the shot: it comes back, and no higher ball is on meanwhile. */
+    private static void ballOnDropsByFoul() {
+        String white = "the ball on drops, and the white ball";
+        foul(white, 4, "3,27 2,14 5,39 5,24 5,37", 4);
+        foul(white, 5, "0,26 3,9 3,37 1,39 1,34 3,12", 5);
+        foul(white, 6, "6,14 3,38 1,35 1,33 2,36 3,39", 6);
+        foul(white + ", of which there is no other", 7, "3,30 2,11 2,9 6,16 3,33 1,5 7,26 4,5 1,37 0,15 6,20", 7);
+        foul(white + ", with a free ball", 6, "0,33 6,12 3,39 1,26 1,38 4,26 3,13 0,23 1,32", 6);
+        String other = "the ball on drops, and another ball is met first";
+        foul(other, 4, "3,27 6,5 1,7 1,36 1,28", 4);
+        foul(other, 5, "2,5 3,1 2,39 5,38 1,38 6,39 6,34 3,26", 5);
+        foul(other, 6, "1,7 6,13 5,26 2,31 3,36 1,38 1,25 4,31 3,27", 6);
     }
 
     private static void fair(String what, String shots, int due) {
@@ -319,12 +334,34 @@ public final class ShotsEdgesTest {
         Check.same("25: the ball on is in a line, behind another ball", Halls.bare("3,24").isFree(0), true);
         Check.same("25: the ball on is in a line, behind a pocket", Halls.bare("2,22 3,20 5,20").isFree(0), false);
         Check.same("25: the ball on is in the next cell", Halls.bare("2,8").isFree(0), false);
+        farSights();
         Check.same("25: none behind a shot that is no foul", Halls.bare("0,1 2,11").isFree(0), false);
         Check.same("25: none when the frame is over", OVER.get().isFree(0), false);
         Check.same("25: still there while the frame waits", WAITS.get().isFree(0), true);
         BaulkHall refused = Halls.bare("0,1");
         Check.outcome(refused, h -> h.shoot(0, 8, 1));
         Check.same("25: still there behind a refused shot", refused.isFree(0), true);
+    }
+
+    /** The ball on lies at the far end of a line, and comes first there, or behind another ball. */
+    private static void farSights() {
+        sight(2, 15, "2,27 4,4 1,7 2,24 6,13 7,3", "2,20 4,26 1,11 2,2 1,25");
+        sight(6, 15, "2,22 3,26 2,38 2,20", "3,24 6,38 2,13");
+        sight(2, 14, "2,10 1,39 1,34 7,30", "2,35 7,36 7,17");
+        sight(6, 14, "0,16 3,40 3,40", "2,23 3,40 3,6");
+        sight(4, 7, "3,11 4,10 0,10", "0,20 5,37 6,26 6,30 0,36 3,14");
+        sight(0, 7, "0,25 3,11 4,18 4,10", "3,30 0,22 5,7 3,6");
+    }
+
+    private static void sight(int direction, int steps, String seen, String hidden) {
+        int[] step = {-16, 0, 1, 0, 16, 0, -1, 0};
+        for (boolean isHidden : new boolean[] {false, true}) {
+            BaulkHall hall = Halls.bare(isHidden ? hidden : seen);
+            String what = " in the direction " + direction + ", " + steps + " steps away";
+            Check.same("23: the ball on" + what, hall.cell(0, hall.ballOn(0)) - hall.cell(0, 0),
+                    steps * step[direction]);
+            Check.same("25: it is hidden" + what, hall.isFree(0), isHidden);
+        }
     }
 
     private static void contactsOf(int promise, String name, Question question) {

@@ -100,6 +100,11 @@ public final class TablesEdgesTest {
         Check.refuses("3: who rents one, and no such table", BUSY, h -> h.rent(4, 4), Check.INDEX);
         Check.refuses("3: who rents one, and no such table", BUSY, h -> h.rent(-1, 4), Check.INDEX);
         Check.refuses("3: neither such a table nor such a customer", FRESH, h -> h.rent(4, 8), Check.INDEX);
+        BaulkHall framed = Halls.allRented();
+        framed.end(3);
+        framed.begin(0, 0, 4, false);
+        framed.begin(1, 5, 6, true);
+        Check.same("3: rented ones with frames on them count, too", framed.rent(3, 7), 4);
         rentAgain();
     }
 
@@ -199,6 +204,11 @@ public final class TablesEdgesTest {
         Check.same("6: two are open", hall.mend(0), 2);
         Check.same("6: three are open", hall.mend(2), 3);
         Check.same("6: all four are open", hall.mend(1), 4);
+        BaulkHall rented = Halls.allRented();
+        rented.begin(0, 0, 4, false);
+        rented.begin(1, 5, 6, true);
+        rented.tear(3);
+        Check.same("6: rented ones count as open, those with frames, too", rented.mend(3), 4);
         Check.refuses("6: open, not rented", BUSY, h -> h.mend(3), Check.STATE);
         Check.refuses("6: open, rented", BUSY, h -> h.mend(0), Check.STATE);
         Supplier<BaulkHall> mended = () -> {
