@@ -72,7 +72,7 @@ public final class CuesEdgesTest {
         for (int[] row : coinsByWearBefore) {
             BaulkHall hall = givenBack(row[0]);
             hall.lend(2, 0);
-            while (hall.wear(2) < row[1]) {
+            for (int j = 0; j < Halls.MOST_STEPS && hall.wear(2) < row[1]; j++) {
                 Halls.playOneByTheFirst(hall, 1);
             }
             int owed = hall.owes(0);

@@ -18,6 +18,9 @@ final class Halls {
     static final String[] SEEN_IN_DIRECTION = {"5,3 6,16", "6,35 0,38", "5,29", "6,34 4,23", "6,25 1,13",
         "6,37 3,19 6,34", "6,9 7,35", "6,34 3,7"};
 
+    /** So that a broken class ends a test with wrong answers, not never. */
+    static final int MOST_STEPS = 60;
+
     private Halls() {
     }
 
@@ -64,7 +67,7 @@ final class Halls {
         BaulkHall hall = new BaulkHall();
         hall.begin(0, 0, 1, true);
         hall.lend(2, 0);
-        while (hall.wear(2) < wear) {
+        for (int i = 0; i < MOST_STEPS && hall.wear(2) < wear; i++) {
             playOneByTheFirst(hall, hall.wear(2) + 11 <= wear ? 40 : 1);
         }
         return hall;
@@ -118,7 +121,7 @@ final class Halls {
     static BaulkHall atMinute(int minute) {
         BaulkHall hall = new BaulkHall();
         hall.rent(0, 0);
-        while (hall.minute() < minute) {
+        for (int i = 0; i < MOST_STEPS && hall.minute() < minute; i++) {
             hall.pass(Math.min(200, minute - hall.minute()));
         }
         return hall;
